@@ -59,6 +59,11 @@ public final class BlockTest {
         DUE.is("one more", BarrierDispatch.FULL, x.submit(0, false, 1));
         DUE.is("no queue before full", BarrierDispatch.NOQUEUE, x.submit(3, false, 1));
         DUE.is("no group before full", BarrierDispatch.NOGROUP, x.submit(0, false, 4));
+        DUE.is("state(159)", 2, x.state(159));
+        DUE.is("state(160)", BarrierDispatch.NOBLOCK, x.state(160));
+        DUE.no("cancel(160)", x.cancel(160));
+        DUE.no("finish(160)", x.finish(160));
+        DUE.is("call(160, 0, false)", BarrierDispatch.NOBLOCK, x.call(160, 0, false));
         DUE.is("count(1)", 160, x.count(1));
         DUE.is("queued(0)", 54, x.queued(0));
         DUE.is("begin()", 2, x.begin());

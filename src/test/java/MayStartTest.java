@@ -7,29 +7,57 @@ public final class MayStartTest {
     private static final int[] WIDE = {8, 8, 8};
     private static final Due DUE = new Due();
 
+    /** The kinds of blocks that a condition can be thought to spare. */
+    private enum Kind {
+        PLAIN(false, false, false), BARRIER(true, false, false), CALLED(false, true, false),
+        CALLED_BARRIER(true, true, false), CANCELLED(false, false, true), CANCELLED_BARRIER(true, false, true),
+        CANCELLED_CALLED(false, true, true), CANCELLED_CALLED_BARRIER(true, true, true);
+
+        private final boolean barrier;
+        private final boolean called;
+        private final boolean cancelled;
+
+        Kind(boolean barrier, boolean called, boolean cancelled) {
+            this.barrier = barrier;
+            this.called = called;
+            this.cancelled = cancelled;
+        }
+
+        private int come(BarrierDispatch x) {
+            int ticket = called ? x.call(runningAside(x), 5, barrier) : x.submit(5, barrier, -1);
+            if (cancelled) {
+                x.cancel(ticket);
+            }
+            return ticket;
+        }
+    }
+
     public static void main(String[] args) {
         onlyWhenQueued();
         noOlderOfTheSameHome();
         olderThatMayNotStartIsInTheWay();
+        olderBindsEveryKind();
         holdCountAbove0();
         holdElsewhere();
+        holdBindsEveryKind();
         widthReached();
         widthReachedByBlocksFromBelow();
         noWidthAtARoot();
-        widthBindsEveryBlock();
+        widthBindsEveryKind();
         liveBarrierInTheChain();
         liveBarrierElsewhere();
-        liveBarrierBindsEveryBlock();
+        liveBarrierBindsEveryKind();
         closedQueueInTheChain();
         closedOnlyByTheOldestQueued();
         closedElsewhere();
         closedByACancelledBarrier();
-        closedBindsEveryBlock();
+        closedBindsEveryKind();
         barrierNeedsAnEmptyHome();
         barrierDoesNotMindTheRest();
-        barrierBindsCancelledAndCalledOnes();
+        barrierOfEveryKind();
         workerFree();
         workerNotNeeded();
+        workerForEveryKind();
         workersInUse();
         DUE.end();
     }
@@ -77,6 +105,27 @@ public final class MayStartTest {
         }
         DUE.is("the filled queue", live, x.through(q));
         return last;
+    }
+
+    /** Whatever kind of block it is, with home 5: it may not start before what is in its way is cleared. */
+    private static void bindsEveryKind(String when, int[] widths, Scene inTheWay, Scene cleared) {
+        for (Kind kind : Kind.values()) {
+            BarrierDispatch x = chain(8, widths);
+            inTheWay.set(x);
+            int ticket = kind.come(x);
+            mayNotStart(when + ", " + kind, x);
+            cleared.set(x);
+            goesOn(when + " no more", x, kind, ticket);
+        }
+    }
+
+    /** It may start: a cancelled block is skipped then, any other begins. */
+    private static void goesOn(String when, BarrierDispatch x, Kind kind, int ticket) {
+        if (kind.cancelled) {
+            isSkipped(when + ", " + kind, x, ticket);
+        } else {
+            mayStart(when + ", " + kind, x, ticket);
+        }
     }
 
     private static void onlyWhenQueued() {
@@ -147,6 +196,19 @@ public final class MayStartTest {
         DUE.is("it is skipped, and the younger begins", 2, y.begin());
     }
 
+    private static void olderBindsEveryKind() {
+        DUE.part("may start 1: an older block of the same home binds every kind of block");
+        bindsEveryKind("a barrier waits", WIDE, x -> {
+            x.submit(7, false, -1);
+            x.begin();
+            x.submit(5, true, -1);
+        }, x -> {
+            x.finish(0);
+            x.begin();
+            x.finish(1);
+        });
+    }
+
     private static void holdCountAbove0() {
         DUE.part("may start 2: no queue of its home's chain has a hold count above 0");
         for (int held : CHAIN) {
@@ -196,6 +258,13 @@ public final class MayStartTest {
         mayNotStart("a hold of its own", x);
         x.hold(7, false);
         mayStart("retargeted to a chain without a hold", x, 3);
+    }
+
+    private static void holdBindsEveryKind() {
+        DUE.part("may start 2: a hold binds every kind of block");
+        for (int q : CHAIN) {
+            bindsEveryKind("a hold at " + q, WIDE, x -> x.hold(q, true), x -> x.hold(q, false));
+        }
     }
 
     private static void widthReached() {
@@ -266,22 +335,11 @@ public final class MayStartTest {
         }
     }
 
-    private static void widthBindsEveryBlock() {
-        DUE.part("may start 3: a cancelled block and one with a caller too");
-        BarrierDispatch x = chain(8, new int[] {8, 2, 8});
-        int last = fill(x, 4, 2);
-        int called = x.call(last, 5, false);
-        mayNotStart("it has a caller", x);
-        x.cancel(called);
-        mayNotStart("it is cancelled and has a caller", x);
-
-        BarrierDispatch y = chain(8, new int[] {1, 8, 8});
-        last = fill(y, 3, 1);
-        int next = y.submit(5, false, -1);
-        y.cancel(next);
-        mayNotStart("it is cancelled", y);
-        y.finish(last);
-        isSkipped("it is cancelled, and the width is free", y, next);
+    private static void widthBindsEveryKind() {
+        DUE.part("may start 3: a width that is reached binds every kind of block");
+        bindsEveryKind("width 1 of 4", new int[] {8, 1, 8}, x -> fill(x, 4, 1), x -> x.finish(1));
+        bindsEveryKind("width 2 of 3", new int[] {2, 8, 8}, x -> fill(x, 3, 2), x -> x.finish(2));
+        bindsEveryKind("width 8 of 3", new int[] {8, 8, 8}, x -> fill(x, 3, 8), x -> x.finish(8));
     }
 
     private static void liveBarrierInTheChain() {
@@ -320,28 +378,26 @@ public final class MayStartTest {
         }
     }
 
-    private static void liveBarrierBindsEveryBlock() {
-        DUE.part("may start 4: a cancelled block and one with a caller too");
-        for (int home : CHAIN) {
-            BarrierDispatch x = chain(8, WIDE);
-            int caller = runningAside(x);
-            x.submit(home, true, -1);
-            x.begin();
-            int called = x.call(caller, 5, false);
-            mayNotStart("it has a caller, home " + home, x);
-            x.cancel(called);
-            mayNotStart("it is cancelled, home " + home, x);
-            x.finish(1);
-            isSkipped("the barrier is DONE, home " + home, x, called);
+    private static void liveBarrierBindsEveryKind() {
+        DUE.part("may start 4: a live barrier in the chain binds every kind of block");
+        for (int q : CHAIN) {
+            bindsEveryKind("a barrier of " + q, WIDE, x -> {
+                x.submit(q, true, -1);
+                x.begin();
+            }, x -> x.finish(0));
         }
     }
 
     /** A block of queue q is live, so that a barrier there has to wait, and closes it. */
-    private static BarrierDispatch closed(int q) {
-        BarrierDispatch x = chain(8, WIDE);
+    private static void close(BarrierDispatch x, int q) {
         x.submit(q, false, -1);
         x.begin();
         x.submit(q, true, -1);
+    }
+
+    private static BarrierDispatch closed(int q) {
+        BarrierDispatch x = chain(8, WIDE);
+        close(x, q);
         return x;
     }
 
@@ -431,15 +487,16 @@ public final class MayStartTest {
         DUE.is("state(1)", 14, x.state(1));
     }
 
-    private static void closedBindsEveryBlock() {
-        DUE.part("may start 5: a cancelled block and one with a caller too");
-        BarrierDispatch x = closed(4);
-        x.submit(2, false, -1);
-        x.begin();
-        int called = x.call(2, 5, false);
-        mayNotStart("it has a caller", x);
-        x.cancel(called);
-        mayNotStart("it is cancelled", x);
+    private static void closedBindsEveryKind() {
+        DUE.part("may start 5: a closed queue in the chain binds every kind of block");
+        int[] queues = {4, 3};
+        for (int q : queues) {
+            bindsEveryKind(q + " is closed", WIDE, x -> close(x, q), x -> {
+                x.finish(0);
+                x.begin();
+                x.finish(1);
+            });
+        }
     }
 
     private static void barrierNeedsAnEmptyHome() {
@@ -483,19 +540,22 @@ public final class MayStartTest {
         mayStart("a barrier below", y, 2);
     }
 
-    private static void barrierBindsCancelledAndCalledOnes() {
-        DUE.part("may start 6: a cancelled barrier and one with a caller too");
-        BarrierDispatch x = chain(8, WIDE);
-        int caller = runningAside(x);
-        x.submit(7, false, -1);
-        x.begin();
-        int called = x.call(caller, 5, true);
-        mayNotStart("it has a caller", x);
-        x.cancel(called);
-        mayNotStart("it is cancelled", x);
-        x.finish(1);
-        isSkipped("its home is empty", x, called);
-        DUE.is("the caller goes on", 3, x.state(caller));
+    private static void barrierOfEveryKind() {
+        DUE.part("may start 6: it binds barriers of every kind, and no other block");
+        int[] homes = {5, 7};
+        for (int home : homes) {
+            for (Kind kind : Kind.values()) {
+                BarrierDispatch x = chain(8, WIDE);
+                x.submit(home, false, -1);
+                x.begin();
+                int ticket = kind.come(x);
+                if (kind.barrier) {
+                    mayNotStart("a live block of " + home + ", " + kind, x);
+                    x.finish(0);
+                }
+                goesOn("home " + home, x, kind, ticket);
+            }
+        }
     }
 
     private static void workerFree() {
@@ -531,6 +591,22 @@ public final class MayStartTest {
         DUE.is("state(2)", 3, x.state(2));
         x.submit(2, false, -1);
         mayNotStart("neither", x);
+    }
+
+    private static void workerForEveryKind() {
+        DUE.part("may start 7: no worker is free, for every kind of block");
+        for (Kind kind : Kind.values()) {
+            BarrierDispatch x = chain(1, WIDE);
+            if (!kind.called) {
+                runningAside(x);
+            }
+            int ticket = kind.come(x);
+            if (!kind.called && !kind.cancelled) {
+                mayNotStart("the worker is in use, " + kind, x);
+                x.finish(0);
+            }
+            goesOn("one worker", x, kind, ticket);
+        }
     }
 
     private static void workersInUse() {

@@ -97,8 +97,11 @@ public final class Promise02Test {
         DUE.is("again, queue(11, 8)", BarrierDispatch.FULL, x.queue(11, 8));
         DUE.is("queued(11)", 0, x.queued(11));
         DUE.is("queued(12)", BarrierDispatch.NOQUEUE, x.queued(12));
-        TWELVE.is("queue(0, 1)", BarrierDispatch.FULL, y -> y.queue(0, 1));
-        TWELVE.is("queue(11, 8)", BarrierDispatch.FULL, y -> y.queue(11, 8));
+        for (int q = 0; q <= 11; q++) {
+            int target = q;
+            TWELVE.is("queue(" + q + ", 1)", BarrierDispatch.FULL, y -> y.queue(target, 1));
+            TWELVE.is("queue(" + q + ", 8)", BarrierDispatch.FULL, y -> y.queue(target, 8));
+        }
     }
 
     private static void noQueueBeforeBad() {

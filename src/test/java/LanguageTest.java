@@ -7,32 +7,31 @@ import java.nio.file.Path;
 import java.util.HashSet;
 import java.util.List;
 import java.util.Set;
-import java.util.regex.Matcher;
-import java.util.regex.Pattern;
 
 /**
- * What of ../shared/LANGUAGE.md can be seen from the words of the source (.ci/run starts it in the
- * project's root) and from the shape of the compiled classes.
+ * What of ../shared/LANGUAGE.md can be seen from the syntax tree of the source (.ci/run starts it in the
+ * project's root) and from the shape of the compiled classes. It is stricter than the rules where the
+ * class has no need of what they leave: so a new type or library call has to be added here on purpose.
  */
 public final class LanguageTest {
-    private static final String[] RULED_OUT = {
-        "\\bpackage\\b", "\\bimport\\b", "\\bthrows?\\b", "\\btry\\b", "\\bcatch\\b", "\\bsynchronized\\b",
-        "\\bassert\\b", "->", "::", "\\bprotected\\b", "Exact\\b", "\\bRandom\\b", "\\bThread\\b", "\\bSystem\\.(?!arraycopy)",
-        "\\bequals\\b", "\\bhashCode\\b", "\\btoString\\b", "\\bObject\\b", "static \\{", "[^\\x00-\\x7f]",
-    };
-    private static final Pattern COMMENT = Pattern.compile("/\\*.*?\\*/|//[^\\n]*", Pattern.DOTALL);
-    private static final Pattern METHOD = Pattern.compile(
-            "^ {4}(?:private|public)[^;=]*\\) \\{\\n(.*?)^ {4}\\}", Pattern.DOTALL | Pattern.MULTILINE);
+    private static final Path SOURCE = Path.of("src/main/java/BarrierDispatch.java");
+    private static final Set<String> TYPES = Set.of("int", "long", "boolean", "void",
+            "BarrierDispatch.Queue", "BarrierDispatch.Block", "BarrierDispatch.Group",
+            "BarrierDispatch.Queue[]", "BarrierDispatch.Block[]", "BarrierDispatch.Group[]");
+    private static final Set<String> LIBRARY = Set.of("java.lang.Math.max", "java.lang.Math.min");
+    private static final Set<String> MAKERS =
+            Set.of("BarrierDispatch.<init>", "BarrierDispatch.queue", "BarrierDispatch.accept");
     private static final List<Class<?>> CONSTANTS =
             List.of(int.class, long.class, boolean.class, char.class, String.class);
     private static final Due DUE = new Due();
 
     public static void main(String[] args) throws IOException {
-        String text = Files.readString(Path.of("src/main/java/BarrierDispatch.java"));
-        String code = COMMENT.matcher(text).replaceAll("");
-        words(code);
-        lengths(code);
-        classesInside();
+        SourceScan scan = new SourceScan(SOURCE);
+        constructs(scan);
+        onlyWhatIsListed(scan);
+        lengthsAndDepths(scan);
+        constructors(scan);
+        classesInside(scan);
         for (Class<?> each : BarrierDispatch.class.getNestMembers()) {
             fields(each);
             methods(each);
@@ -40,28 +39,52 @@ public final class LanguageTest {
         DUE.end();
     }
 
-    private static void words(String code) {
-        DUE.part("rules 3, 4, 5, 6 and 13, the words");
-        for (String words : RULED_OUT) {
-            DUE.no("the source has " + words, Pattern.compile(words).matcher(code).find());
+    private static void constructs(SourceScan scan) throws IOException {
+        DUE.part("rules 2, 3, 5, 6, 9, 10 and 12, the constructs");
+        for (String each : scan.ruledOut) {
+            DUE.no("the source has " + each, true);
+        }
+        DUE.no("the source has a character that is not ASCII",
+                Files.readString(SOURCE).chars().anyMatch(each -> each > 127));
+    }
+
+    private static void onlyWhatIsListed(SourceScan scan) {
+        DUE.part("rules 3, 4, 12 and 13, types, library and makers");
+        DUE.yes("types were found", scan.types.contains("int"));
+        for (String type : scan.types) {
+            DUE.yes("a type of the list: " + type, TYPES.contains(type));
+        }
+        for (String call : scan.library) {
+            DUE.yes("a library call of the list: " + call, LIBRARY.contains(call));
+        }
+        for (String maker : scan.makers) {
+            DUE.yes("makes objects only where one is kept: " + maker, MAKERS.contains(maker));
         }
     }
 
-    private static void lengths(String code) {
-        DUE.part("rule 11, some sixty lines");
-        Matcher method = METHOD.matcher(code);
-        int methods = 0;
-        while (method.find()) {
-            methods++;
-            long lines = method.group(1).lines().count();
-            DUE.yes("sixty lines at most: " + method.group().lines().findFirst().orElse(""), lines <= 60);
+    private static void lengthsAndDepths(SourceScan scan) {
+        DUE.part("rules 8 and 11, lengths and depths");
+        DUE.yes("methods were found", scan.lengths.size() > 20);
+        for (String method : scan.lengths.keySet()) {
+            DUE.yes("sixty lines at most: " + method, scan.lengths.get(method) <= 60);
+            DUE.yes("no recursion, and eight calls deep at most: " + method, scan.depth(method) <= 8);
         }
-        DUE.yes("methods were found", methods > 20);
     }
 
-    private static void classesInside() {
+    private static void constructors(SourceScan scan) {
+        DUE.part("rule 12, a constructor calls no method");
+        for (String method : scan.calls.keySet()) {
+            for (String called : scan.calls.get(method)) {
+                boolean makes = called.endsWith(".<init>");
+                DUE.yes(method + " calls " + called, makes || !method.endsWith(".<init>"));
+            }
+        }
+    }
+
+    private static void classesInside(SourceScan scan) {
         DUE.part("rules 1, 2 and 11, the classes inside");
         Class<?>[] inside = BarrierDispatch.class.getDeclaredClasses();
+        DUE.is("classes of the source", scan.classes.size(), inside.length + 1);
         DUE.is("no local or anonymous class", inside.length + 1, BarrierDispatch.class.getNestMembers().length);
         DUE.yes("twelve classes at most", inside.length < 12);
         for (Class<?> each : inside) {

@@ -51,6 +51,8 @@ public final class MayStartTest {
         closedOnlyByTheOldestQueued();
         closedElsewhere();
         closedByACancelledBarrier();
+        closedByACancelledBarrierThatIsHeld();
+        closedByACancelledBarrierWithACaller();
         closedBindsEveryKind();
         barrierNeedsAnEmptyHome();
         barrierDoesNotMindTheRest();
@@ -485,6 +487,36 @@ public final class MayStartTest {
         DUE.is("only the barrier may start, ready()", 1, x.ready());
         DUE.is("it is skipped, and 4 is open", 2, x.begin());
         DUE.is("state(1)", 14, x.state(1));
+    }
+
+    private static void closedByACancelledBarrierThatIsHeld() {
+        DUE.part("may start 5: a cancelled barrier is QUEUED until it is skipped, however long it is held");
+        BarrierDispatch held = closed(4);
+        held.submit(4, false, -1);
+        held.submit(5, false, -1);
+        held.cancel(1);
+        held.hold(4, true);
+        held.finish(0);
+        mayNotStart("4 is held, and the barrier the oldest of its line", held);
+        held.retarget(5, 3);
+        mayStart("5 is retargeted past 4", held, 3);
+        held.hold(4, false);
+        DUE.is("the barrier is skipped, the next of its line begins", 2, held.begin());
+    }
+
+    private static void closedByACancelledBarrierWithACaller() {
+        DUE.part("may start 5: a cancelled barrier is QUEUED until it is skipped, also one that has a caller");
+        BarrierDispatch called = chain(8, WIDE);
+        called.submit(4, false, -1);
+        called.begin();
+        int waiting = runningAside(called);
+        called.call(waiting, 4, true);
+        called.submit(5, false, -1);
+        called.cancel(2);
+        mayNotStart("4 is closed by a barrier that has a caller", called);
+        called.finish(0);
+        mayStart("it is skipped, and 4 is open", called, 3);
+        DUE.is("its caller goes on", 3, called.state(waiting));
     }
 
     private static void closedBindsEveryKind() {

@@ -1,6 +1,7 @@
 /** Promise 5, after: its edges, sentence by sentence. */
 public final class Promise05Test {
     private static final long FOREVER = BarrierDispatch.FOREVER;
+    private static final long[] CLOCKS = {0, 1, FOREVER - 1};
     private static final Due DUE = new Due();
     private static final NoChange NEW = new NoChange(DUE, 2, x -> { });
     private static final NoChange MIXED = new NoChange(DUE, Mixed.WORKERS, Mixed::set);
@@ -22,15 +23,8 @@ public final class Promise05Test {
     private static void queuedWhenDelayIsZeroOrLess() {
         DUE.part("promise 5: when delay is 0 or less, it is QUEUED at once");
         long[] delays = {Long.MIN_VALUE, Long.MIN_VALUE + 1, -1000, -2, -1, 0};
-        long[] clocks = {0, 1, FOREVER - 1};
-        for (long clock : clocks) {
-            BarrierDispatch x = new BarrierDispatch(1);
-            x.advance(clock);
-            for (int ticket = 0; ticket < delays.length; ticket++) {
-                String name = "at " + clock + ", after(0, " + delays[ticket] + ")";
-                DUE.is(name, ticket, x.after(0, delays[ticket]));
-                DUE.is(name + ", its state", 2, x.state(ticket));
-            }
+        for (long clock : CLOCKS) {
+            BarrierDispatch x = acceptedAt(clock, delays, 2);
             DUE.is("queued(0)", delays.length, x.queued(0));
             DUE.is("advance(FOREVER)", 0, x.advance(FOREVER));
         }
@@ -39,19 +33,23 @@ public final class Promise05Test {
     private static void delayedWhenDelayIsOneOrMore() {
         DUE.part("promise 5: otherwise it is DELAYED");
         long[] delays = {1, 2, 1000, FOREVER - 2, FOREVER - 1, FOREVER};
-        long[] clocks = {0, 1, FOREVER - 1};
-        for (long clock : clocks) {
-            BarrierDispatch x = new BarrierDispatch(1);
-            x.advance(clock);
-            for (int ticket = 0; ticket < delays.length; ticket++) {
-                String name = "at " + clock + ", after(0, " + delays[ticket] + ")";
-                DUE.is(name, ticket, x.after(0, delays[ticket]));
-                DUE.is(name + ", its state", 1, x.state(ticket));
-            }
+        for (long clock : CLOCKS) {
+            BarrierDispatch x = acceptedAt(clock, delays, 1);
             DUE.is("queued(0)", 0, x.queued(0));
             DUE.is("ready()", 0, x.ready());
             DUE.is("advance(0)", 0, x.advance(0));
         }
+    }
+
+    private static BarrierDispatch acceptedAt(long clock, long[] delays, int state) {
+        BarrierDispatch x = new BarrierDispatch(1);
+        x.advance(clock);
+        for (int ticket = 0; ticket < delays.length; ticket++) {
+            String name = "at " + clock + ", after(0, " + delays[ticket] + ")";
+            DUE.is(name, ticket, x.after(0, delays[ticket]));
+            DUE.is(name + ", its state", state, x.state(ticket));
+        }
+        return x;
     }
 
     private static void deadlineIsClockPlusDelay() {

@@ -18,6 +18,8 @@ public final class Promise06Test {
         deadlockOnlyByTheCallers();
         deadlockOnlyByCallsThatStand();
         noDeadlockAtARoot();
+        noDeadlockWhenTheCallersUseUpAWidth();
+        noDeadlockByWhatIsInTheWayNow();
         deadlockChangesNothing();
         fullWith160Blocks();
         noBlockBeforeTheOthers();
@@ -198,6 +200,45 @@ public final class Promise06Test {
             DUE.is("begin()", 3, x.begin());
             DUE.is("through the root", 4, x.through(root));
         }
+    }
+
+    private static void noDeadlockWhenTheCallersUseUpAWidth() {
+        DUE.part("promise 6: DEADLOCK when one of these holds, and a width above 1 is none of them");
+        for (int width = 2; width <= 8; width++) {
+            BarrierDispatch x = new BarrierDispatch(1);
+            x.queue(0, width);
+            x.queue(3, 8);
+            x.submit(3, false, -1);
+            x.begin();
+            for (int caller = 0; caller < width - 1; caller++) {
+                x.call(caller, caller % 2 == 0 ? 4 : 3, false);
+                x.begin();
+            }
+            String name = "width " + width + " is in use by the callers alone";
+            DUE.is(name + ", through(3)", width, x.through(3));
+            DUE.is(name + ", call", width, x.call(width - 1, 4, false));
+            DUE.is(name + ", state of the caller", 4, x.state(width - 1));
+            DUE.is(name + ", state of the called", 2, x.state(width));
+            DUE.is(name + ", it never starts", BarrierDispatch.IDLE, x.begin());
+            DUE.is(name + ", ready()", 0, x.ready());
+        }
+    }
+
+    private static void noDeadlockByWhatIsInTheWayNow() {
+        DUE.part("promise 6: DEADLOCK when one of these holds, and no hold or other block is one of them");
+        BarrierDispatch x = new BarrierDispatch(3);
+        x.queue(0, 2);
+        x.submit(3, false, -1);
+        x.submit(3, true, -1);
+        x.submit(1, false, -1);
+        x.begin();
+        x.begin();
+        DUE.is("behind a barrier that waits for the caller", 3, x.call(0, 3, false));
+        DUE.is("begin()", BarrierDispatch.IDLE, x.begin());
+        x.hold(3, true);
+        DUE.is("a barrier to a held queue", 4, x.call(2, 3, true));
+        DUE.is("queued(3)", 3, x.queued(3));
+        DUE.is("begin()", BarrierDispatch.IDLE, x.begin());
     }
 
     private static void deadlockChangesNothing() {

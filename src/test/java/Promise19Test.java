@@ -81,7 +81,8 @@ public final class Promise19Test {
         }
         x.submit(4, false, -1);
         x.begin();
-        int[] after = {2, 1, 0, 2, 2};
+        DUE.is("a new queue below a live block's home", 5, x.queue(4, 1));
+        int[] after = {2, 1, 0, 2, 2, 0};
         for (int q = 0; q < after.length; q++) {
             DUE.is("peak(" + q + ")", after[q], x.peak(q));
         }

@@ -8,7 +8,6 @@ public final class ReadingTest {
         queuedByHome();
         throughTheChain();
         peakStays();
-        peakAfterRetarget();
         DUE.end();
     }
 
@@ -145,28 +144,5 @@ public final class ReadingTest {
         for (int q : NO_QUEUES) {
             DUE.is("peak(" + q + ")", BarrierDispatch.NOQUEUE, x.peak(q));
         }
-    }
-
-    private static void peakAfterRetarget() {
-        DUE.part("promise 19, as the chains were");
-        BarrierDispatch x = new BarrierDispatch(8);
-        x.queue(0, 8);
-        x.queue(3, 8);
-        x.submit(4, false, -1);
-        x.submit(4, false, -1);
-        x.begin();
-        x.begin();
-        x.finish(0);
-        x.finish(1);
-        x.retarget(4, 2);
-        DUE.is("peak(3)", 2, x.peak(3));
-        DUE.is("peak(0)", 2, x.peak(0));
-        DUE.is("peak(2)", 0, x.peak(2));
-        x.submit(4, false, -1);
-        x.begin();
-        DUE.is("peak(2)", 1, x.peak(2));
-        DUE.is("peak(4)", 2, x.peak(4));
-        DUE.is("a new queue", 5, x.queue(4, 1));
-        DUE.is("peak(5)", 0, x.peak(5));
     }
 }
